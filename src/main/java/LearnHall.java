@@ -425,8 +425,8 @@ public final class LearnHall {
         Machine(int letters, int states) {
             this.letters = Math.min(letters, MAX_LETTERS);
             this.states = Math.min(states, FULL_ROWS);
-            for (int state = 0; state < this.states; state++) {
-                Arrays.fill(targets, state * MAX_LETTERS, (state + 1) * MAX_LETTERS, state);
+            for (int i = 0; i < targets.length; i++) {
+                targets[i] = i / MAX_LETTERS;
             }
         }
 

@@ -9,6 +9,7 @@ public final class ExamplesTest {
         merge();
         mergeWithoutExamples();
         mergeTriesFirstOnesFirst();
+        mergeTriesShortWordsFirst();
         mergeJoinsWhatIsBehind();
         mergeIsUndone();
         mergeTakesTheFirstWord();
@@ -16,6 +17,7 @@ public final class ExamplesTest {
         mergeOfWrongLetters();
         mergeOfTooManyStates();
         mergeWithoutRoom();
+        mergeOfTheGreatestTree();
         Due.end();
     }
 
@@ -102,6 +104,21 @@ public final class ExamplesTest {
         Due.is("b from 0", 1, hall.lead(0, 0, 'b', 0));
         Due.is("b from a", 0, hall.lead(0, 1, 'b', 0));
         Due.is("c from a", 1, hall.lead(0, 1, 'c', 0));
+    }
+
+    /** A state is called by its first word: c is tried ahead of ba, to which a leads once b is joined. */
+    private static void mergeTriesShortWordsFirst() {
+        LearnHall hall = new LearnHall();
+        Schools.example(hall, "c", false);
+        Schools.example(hall, "ba", true);
+        Due.is("merge(3)", 0, hall.merge(3));
+        Due.is("states", 2, hall.states(0));
+        for (char c = 'a'; c <= 'c'; c++) {
+            Due.is("lead from 0 by " + c, c == 'a' ? 1 : 0, hall.lead(0, 0, c, 0));
+            Due.is("lead from 1 by " + c, 1, hall.lead(0, 1, c, 0));
+        }
+        Due.is("accept of 0", false, hall.accept(0, 0, false));
+        Due.is("accept of 1", true, hall.accept(0, 1, false));
     }
 
     private static void mergeJoinsWhatIsBehind() {
@@ -206,6 +223,35 @@ public final class ExamplesTest {
             more.machine(1, 1);
         }
         Due.fails(more, ArithmeticException.class, "merge(2) of 9 states without room", () -> more.merge(2));
+    }
+
+    /** 24 words of 12 letters that part at their third letter at the latest: a tree of 253 states. */
+    private static void mergeOfTheGreatestTree() {
+        for (int rule = 2; rule <= 4; rule++) {
+            LearnHall hall = new LearnHall();
+            ReferenceHall reference = new ReferenceHall();
+            for (int i = 0; i < 24; i++) {
+                hall.clear();
+                reference.clear();
+                int sum = 0;
+                for (int k = 0; k < 12; k++) {
+                    int letter = (k == 0 ? i / 9 : k == 1 ? i / 3 : k == 2 ? i : i * k + k * k / 5) % 3;
+                    sum += letter;
+                    hall.type((char) ('a' + letter));
+                    reference.type((char) ('a' + letter));
+                }
+                Due.is("example", i + 1, hall.example(sum % rule == 0));
+                reference.example(sum % rule == 0);
+            }
+            Due.is("merge(3)", Due.answerOf(() -> reference.merge(3)), Due.answerOf(() -> hall.merge(3)));
+            Due.is("states(0)", reference.states(0), hall.states(0));
+            for (int s = 0; s < reference.states(0); s++) {
+                for (char c = 'a'; c <= 'c'; c++) {
+                    Due.is("lead from " + s + " by " + c, reference.lead(0, s, c, 0), hall.lead(0, s, c, 0));
+                }
+                Due.is("accept of " + s, reference.accept(0, s, false), hall.accept(0, s, false));
+            }
+        }
     }
 
     private static void mergeWithoutRoom() {

@@ -47,21 +47,23 @@ public final class LearnersTest {
         Due.is("asked(3)", 0, hall.asked(3));
         Due.is("compared(3)", 0, hall.compared(3));
         Due.is("isDone(3)", false, hall.isDone(3));
+        Due.fails(hall, INDEX, "step(4)", () -> hall.step(4));
+        Due.fails(hall, INDEX, "check(4)", () -> hall.check(4));
     }
 
     private static void withoutLearners() {
-        LearnHall hall = new LearnHall();
-        hall.machine(2, 2);
-        outside(hall, 0);
-        hall.learner(0, true);
-        outside(hall, 1);
-        outside(hall, -1);
-        outside(hall, 4);
-        outside(hall, Integer.MIN_VALUE);
-        outside(hall, Integer.MAX_VALUE);
+        outside(0, 0);
+        for (int learner : new int[] {1, -1, 4, Integer.MIN_VALUE, Integer.MAX_VALUE}) {
+            outside(1, learner);
+        }
     }
 
-    private static void outside(LearnHall hall, int learner) {
+    private static void outside(int learners, int learner) {
+        LearnHall hall = new LearnHall();
+        hall.machine(2, 2);
+        for (int i = 0; i < learners; i++) {
+            hall.learner(0, true);
+        }
         Due.fails(hall, INDEX, "step(" + learner + ")", () -> hall.step(learner));
         Due.fails(hall, INDEX, "check(" + learner + ")", () -> hall.check(learner));
         Due.fails(hall, INDEX, "rows(" + learner + ")", () -> hall.rows(learner));
@@ -226,11 +228,13 @@ public final class LearnersTest {
             LearnHall hall = new LearnHall();
             hall.machine(3, 8);
             hall.learner(0, false);
+            String before = "";
             for (String word : words) {
-                teach(hall, word);
+                teach(hall, before, word);
+                before = word;
             }
             Due.is("columns", 34, hall.columns(0));
-            teach(hall, columns == 39 ? "cacaca" : "acacaca");
+            teach(hall, before, columns == 39 ? "cacaca" : "acacaca");
             Due.is("columns", columns, hall.columns(0));
             Due.is("the last column", columns - 33, hall.column(0, columns - 1));
             Due.fails(hall, INDEX, "column behind the last one", () -> hall.column(0, hall.columns(0)));
@@ -245,26 +249,20 @@ public final class LearnersTest {
     }
 
     /** Lets a learner of one row find a word, by a machine that accepts no other one of its length. */
-    private static void teach(LearnHall hall, String word) {
-        forget(hall);
+    private static void teach(LearnHall hall, String before, String word) {
+        hall.accept(0, before.length(), false);
+        for (int i = 0; i < before.length(); i++) {
+            hall.lead(0, i, before.charAt(i), i);
+        }
+        // It is to keep that none of its words is accepted, so that the machine can change behind its back.
+        hall.check(0);
+        Due.is("step when nothing is accepted", 'd', hall.step(0));
+        hall.check(0);
         for (int i = 0; i < word.length(); i++) {
             hall.lead(0, i, word.charAt(i), i + 1);
         }
         hall.accept(0, word.length(), true);
         Due.is("step for " + word, 'e', hall.step(0));
-    }
-
-    /** Makes the machine accept nothing, and lets the learner keep that of all its words. */
-    private static void forget(LearnHall hall) {
-        for (int s = 0; s < 8; s++) {
-            hall.accept(0, s, false);
-            for (char c = 'a'; c <= 'c'; c++) {
-                hall.lead(0, s, c, 0);
-            }
-        }
-        hall.check(0);
-        Due.is("step when nothing is accepted", 'd', hall.step(0));
-        hall.check(0);
     }
 
     private static void check() {

@@ -144,38 +144,46 @@ public final class MachinesTest {
 
     private static void areSame() {
         LearnHall hall = new LearnHall();
-        Schools.add(hall, 2, "10 10", "1");
-        Schools.add(hall, 2, "12 12 10", "1");
-        Schools.add(hall, 2, "12 12 10", "12");
-        Schools.add(hall, 1, "1 0", "1");
+        addFour(hall);
         Due.is("areSame(0, 1)", true, hall.areSame(0, 1));
         Due.is("areSame(1, 0)", true, hall.areSame(1, 0));
         Due.is("areSame(0, 2)", false, hall.areSame(0, 2));
         Due.is("areSame(2, 1)", false, hall.areSame(2, 1));
         Due.is("areSame(3, 3)", true, hall.areSame(3, 3));
-        wrongPairs(hall, "areSame", (one, other) -> hall.areSame(one, other));
+        wrongPairs("areSame", (school, one, other) -> school.areSame(one, other));
     }
 
-    private interface Pair {
-        Object make(int one, int other);
-    }
-
-    private static void wrongPairs(LearnHall hall, String name, Pair pair) {
-        int[][] outside = {{4, 0}, {0, 4}, {-1, 0}, {0, -1}, {4, 4}, {3, 4}, {-1, 3}};
-        for (int[] w : outside) {
-            Due.fails(hall, INDEX, name + "(" + w[0] + ", " + w[1] + ")", () -> pair.make(w[0], w[1]));
-        }
-        Due.fails(hall, ARGUMENT, name + "(0, 3)", () -> pair.make(0, 3));
-        Due.fails(hall, ARGUMENT, name + "(3, 2)", () -> pair.make(3, 2));
-    }
-
-    private static void apart() {
-        LearnHall hall = new LearnHall();
+    /** The first two are the same, the last one has another number of letters. */
+    private static void addFour(LearnHall hall) {
         Schools.add(hall, 2, "10 10", "1");
         Schools.add(hall, 2, "12 12 10", "1");
         Schools.add(hall, 2, "12 12 10", "12");
         Schools.add(hall, 1, "1 0", "1");
-        wrongPairs(hall, "apart", (one, other) -> hall.apart(one, other));
+    }
+
+    private interface Pair {
+        Object make(LearnHall hall, int one, int other);
+    }
+
+    private static void wrongPairs(String name, Pair pair) {
+        int[][] outside = {{4, 0}, {0, 4}, {-1, 0}, {0, -1}, {4, 4}, {3, 4}, {-1, 3}};
+        for (int[] w : outside) {
+            wrongPair(INDEX, name, pair, w[0], w[1]);
+        }
+        wrongPair(ARGUMENT, name, pair, 0, 3);
+        wrongPair(ARGUMENT, name, pair, 3, 2);
+    }
+
+    private static void wrongPair(Class<? extends RuntimeException> due, String name, Pair pair, int one, int other) {
+        LearnHall hall = new LearnHall();
+        addFour(hall);
+        Due.fails(hall, due, name + "(" + one + ", " + other + ")", () -> pair.make(hall, one, other));
+    }
+
+    private static void apart() {
+        LearnHall hall = new LearnHall();
+        addFour(hall);
+        wrongPairs("apart", (school, one, other) -> school.apart(one, other));
         Due.fails(hall, NONE, "apart(0, 1)", () -> hall.apart(0, 1));
         Due.fails(hall, NONE, "apart(3, 3)", () -> hall.apart(3, 3));
         Due.is("apart(0, 2)", 1, hall.apart(0, 2));

@@ -7,9 +7,6 @@ import java.util.List;
 public final class RandomRunsTest {
     private static final int CALLS = 512;
 
-    private record Call(Method method, Method reference, Object[] arguments) {
-    }
-
     /** Numbers that look random and are the same in each run. */
     private static final class Numbers {
         private long state;
@@ -28,7 +25,7 @@ public final class RandomRunsTest {
         }
     }
 
-    /** What the calls of a run are like: how often each method is called, in a row of names that is drawn from. */
+    /** What the calls of a run are like: the names of methods from which the next one is drawn. */
     private enum Kind {
         EVERYTHING("machine lead lead lead lead accept accept states least areSame apart apartAt together words "
                 + "type type type type clear run accepts learner step step step step step check rows columns row column "
@@ -40,7 +37,11 @@ public final class RandomRunsTest {
         EXAMPLES("type type type type type type type type clear example example example merge run accepts "
                 + "words states least apart apartAt areSame acceptShare machine"),
         COMPARING("lead lead lead accept areSame apart apartAt apartAt least together words merge machine isSound "
-                + "acceptShare states run accepts type clear");
+                + "acceptShare states run accepts type clear"),
+        /** Up to 24 examples, some of them long, with a merge now and then. */
+        MERGING(""),
+        /** A learner whose machine changes between its steps, so that it keeps many words. */
+        GROWING("");
 
         final String[] names;
 
@@ -56,10 +57,11 @@ public final class RandomRunsTest {
     private final List<String> told = new ArrayList<>();
     private final int letters;
     private final int states;
-    /** An accepting row of letters decides about examples, so that some can be merged to few states. */
+    /** By which sums of letters words are accepted, so that examples can be merged to few states; 3 is by chance. */
     private final int rule;
     private int typedSum;
-    private int made;
+    private int calls;
+    private boolean isWrong;
 
     private RandomRunsTest(Kind kind, int seed) {
         this.kind = kind;
@@ -70,11 +72,11 @@ public final class RandomRunsTest {
     }
 
     public static void main(String[] args) throws ReflectiveOperationException {
-        int runs = args.length > 0 ? Integer.parseInt(args[0]) : 300;
+        int runs = args.length > 0 ? Integer.parseInt(args[0]) : 200;
         int wrong = 0;
         for (Kind kind : Kind.values()) {
             for (int seed = 0; seed < runs; seed++) {
-                wrong += new RandomRunsTest(kind, seed).isAsDue() ? 0 : 1;
+                wrong += new RandomRunsTest(kind, seed).isWrong() ? 1 : 0;
             }
         }
         if (wrong > 0) {
@@ -83,97 +85,155 @@ public final class RandomRunsTest {
         }
     }
 
-    private boolean isAsDue() throws ReflectiveOperationException {
-        prepare();
-        while (made < CALLS) {
-            Call call = draw();
-            if (!isAnsweredAsDue(call)) {
-                return false;
+    private boolean isWrong() throws ReflectiveOperationException {
+        switch (kind) {
+            case MERGING:
+                mergeRun();
+                break;
+            case GROWING:
+                growRun();
+                break;
+            default:
+                drawnRun();
+        }
+        return isWrong;
+    }
+
+    private void drawnRun() throws ReflectiveOperationException {
+        // Most runs begin with machines whose letters lead anywhere, and with learners.
+        if (kind != Kind.EXAMPLES && !numbers.once(10)) {
+            int machines = 1 + numbers.below(2);
+            for (int m = 0; m < machines; m++) {
+                anyMachine(m);
+            }
+            ask("learner", 0, numbers.once(2));
+            ask("learner", numbers.below(machines), numbers.once(2));
+        }
+        while (calls < CALLS) {
+            askAny(kind.names[numbers.below(kind.names.length)]);
+        }
+    }
+
+    private void anyMachine(int machine) throws ReflectiveOperationException {
+        ask("machine", letters, states);
+        for (int s = 0; s < states; s++) {
+            for (int l = 0; l < letters; l++) {
+                ask("lead", machine, s, (char) ('a' + l), numbers.below(states));
+            }
+            ask("accept", machine, s, numbers.once(2));
+        }
+    }
+
+    private void mergeRun() throws ReflectiveOperationException {
+        int longest = 1 + numbers.below(12);
+        int merged = 0;
+        while (calls < CALLS - 80) {
+            ask("clear");
+            int length = numbers.once(2) ? longest : numbers.below(longest + 1);
+            for (int i = 0; i < length; i++) {
+                ask("type", (char) ('a' + numbers.below(letters)));
+            }
+            ask("example", numbers.once(30) ? numbers.once(2) : isRight());
+            if (numbers.once(8)) {
+                mergeAndLook(merged);
+                merged++;
             }
         }
-        return true;
+        mergeAndLook(merged);
     }
 
-    /** Most runs begin with a machine whose letters lead anywhere, and with learners. */
-    private void prepare() throws ReflectiveOperationException {
-        if (kind == Kind.EXAMPLES || numbers.once(10)) {
-            return;
+    /** Merges, and looks where each letter of the new machine leads. */
+    private void mergeAndLook(int machine) throws ReflectiveOperationException {
+        ask("merge", letters);
+        for (int s = 0; s < 8; s++) {
+            for (int l = 0; l < letters; l++) {
+                ask("lead", machine, s, (char) ('a' + l), 0);
+            }
+            ask("accept", machine, s, false);
         }
-        int machines = 1 + numbers.below(2);
-        for (int m = 0; m < machines; m++) {
-            isAnsweredAsDue(call("machine", letters, states));
-            for (int s = 0; s < states; s++) {
-                for (int l = 0; l < letters; l++) {
-                    isAnsweredAsDue(call("lead", m, s, (char) ('a' + l), numbers.below(states)));
-                }
-                isAnsweredAsDue(call("accept", m, s, numbers.once(2)));
+    }
+
+    private void growRun() throws ReflectiveOperationException {
+        anyMachine(0);
+        ask("learner", 0, numbers.once(8));
+        int changes = 1 + numbers.below(2);
+        int most = 17 + numbers.below(5);
+        while (calls < CALLS - 90) {
+            if (reference.rows(0) >= most) {
+                acceptAny(false);
+                acceptAny(true);
+            }
+            ask("step", 0);
+            if (reference.isDone(0)) {
+                ask("check", 0);
+            }
+            for (int i = 0; i < changes; i++) {
+                ask("lead", 0, numbers.below(states), (char) ('a' + numbers.below(letters)), numbers.below(states));
+                ask("accept", 0, numbers.below(states), numbers.once(2));
             }
         }
-        isAnsweredAsDue(call("learner", 0, numbers.once(2)));
-        isAnsweredAsDue(call("learner", numbers.below(machines), numbers.once(2)));
+        for (String name : new String[] {"asked", "compared", "rows", "columns"}) {
+            ask(name, 0);
+        }
+        for (int i = 0; i < 20; i++) {
+            ask("row", 0, i);
+            ask("column", 0, i);
+            ask("column", 0, i + 20);
+        }
+        ask("believes", 0);
     }
 
-    private boolean isAnsweredAsDue(Call call) throws ReflectiveOperationException {
-        made++;
-        String due = answer(call.reference, reference, call.arguments);
-        String got = answer(call.method, hall, call.arguments);
-        StringBuilder text = new StringBuilder(call.method.getName()).append('(');
-        for (Object argument : call.arguments) {
-            text.append(argument).append(' ');
+    /** Drops most rows of the learner, so that it may grow again. */
+    private void acceptAny(boolean isAny) throws ReflectiveOperationException {
+        for (int s = 0; s < states; s++) {
+            ask("accept", 0, s, isAny && numbers.once(2));
         }
-        told.add(text.append(") = ").append(got).toString());
-        if (call.method.getName().equals("type") && got.length() < 3) {
-            typedSum += (char) call.arguments[0] - 'a' + 1;
-        } else if (call.method.getName().equals("clear")) {
-            typedSum = 0;
-        }
-        if (!due.equals(got)) {
-            System.out.println(kind + " run, due is " + due + " in the last row:");
-            told.forEach(System.out::println);
-            return false;
-        }
-        return true;
+        ask("check", 0);
     }
 
-    private static String answer(Method method, Object target, Object[] arguments) throws IllegalAccessException {
-        try {
-            return String.valueOf(method.invoke(target, arguments));
-        } catch (InvocationTargetException e) {
-            return "throws." + e.getCause().getClass().getSimpleName();
-        }
-    }
-
-    private Call draw() throws ReflectiveOperationException {
-        String name = kind.names[numbers.below(kind.names.length)];
+    private void askAny(String name) throws ReflectiveOperationException {
         switch (name) {
             case "machine":
-                return call(name, numbers.once(3) ? numbers.below(5) : letters, numbers.once(3) ? numbers.below(10) : states);
+                ask(name, numbers.once(3) ? numbers.below(5) : letters, numbers.once(3) ? numbers.below(10) : states);
+                break;
             case "lead":
-                return call(name, machine(), state(), letter(), state());
+                ask(name, machine(), state(), letter(), state());
+                break;
             case "accept":
-                return call(name, machine(), state(), numbers.once(2));
+                ask(name, machine(), state(), numbers.once(2));
+                break;
             case "areSame", "apart":
-                return call(name, machine(), machine());
+                ask(name, machine(), machine());
+                break;
             case "apartAt":
-                return call(name, machine(), machine(), numbers.below(5) - 1);
+                ask(name, machine(), machine(), numbers.below(5) - 1);
+                break;
             case "words":
-                return call(name, machine(), numbers.below(33) - 1);
+                ask(name, machine(), numbers.below(33) - 1);
+                break;
             case "type":
-                return call(name, letter());
+                ask(name, letter());
+                break;
             case "learner":
-                return call(name, machine(), numbers.once(2));
+                ask(name, machine(), numbers.once(2));
+                break;
             case "step", "check", "rows", "columns", "asked", "compared", "isDone", "believes":
-                return call(name, learner());
+                ask(name, learner());
+                break;
             case "row", "column":
-                return call(name, learner(), numbers.once(5) ? numbers.below(30) - 1 : numbers.below(5));
+                ask(name, learner(), numbers.once(5) ? numbers.below(30) - 1 : numbers.below(5));
+                break;
             case "example":
-                return call(name, numbers.once(12) ? numbers.once(2) : isRight());
+                ask(name, numbers.once(12) ? numbers.once(2) : isRight());
+                break;
             case "merge":
-                return call(name, numbers.once(8) ? numbers.below(6) - 1 : numbers.once(2) ? letters : 3);
+                ask(name, numbers.once(8) ? numbers.below(6) - 1 : numbers.once(2) ? letters : 3);
+                break;
             case "clear", "acceptShare", "meanAsked", "isSound":
-                return call(name);
+                ask(name);
+                break;
             default:
-                return call(name, machine());
+                ask(name, machine());
         }
     }
 
@@ -197,12 +257,39 @@ public final class RandomRunsTest {
         return numbers.once(40) ? numbers.below(7) - 1 : numbers.below(2);
     }
 
-    private static Call call(String name, Object... arguments) throws ReflectiveOperationException {
-        Class<?>[] types = new Class<?>[arguments.length];
-        for (int i = 0; i < types.length; i++) {
-            Class<?> kind = arguments[i].getClass();
-            types[i] = kind == Integer.class ? int.class : kind == Character.class ? char.class : boolean.class;
+    /** Makes a call of both, and tells the run if the answers differ; after that, nothing more is asked. */
+    private void ask(String name, Object... arguments) throws ReflectiveOperationException {
+        calls++;
+        if (isWrong) {
+            return;
         }
-        return new Call(LearnHall.class.getMethod(name, types), ReferenceHall.class.getMethod(name, types), arguments);
+        Class<?>[] types = new Class<?>[arguments.length];
+        StringBuilder text = new StringBuilder(name).append('(');
+        for (int i = 0; i < types.length; i++) {
+            Class<?> type = arguments[i].getClass();
+            types[i] = type == Integer.class ? int.class : type == Character.class ? char.class : boolean.class;
+            text.append(i == 0 ? "" : ", ").append(arguments[i]);
+        }
+        String due = answer(ReferenceHall.class.getMethod(name, types), reference, arguments);
+        String got = answer(LearnHall.class.getMethod(name, types), hall, arguments);
+        told.add(text.append(") = ").append(got).toString());
+        if (name.equals("clear")) {
+            typedSum = 0;
+        } else if (name.equals("type") && !due.startsWith("throws")) {
+            typedSum += (char) arguments[0] - 'a' + 1;
+        }
+        if (!due.equals(got)) {
+            isWrong = true;
+            System.out.println(kind + " run, due is " + due + " in the last row:");
+            told.forEach(System.out::println);
+        }
+    }
+
+    private static String answer(Method method, Object target, Object[] arguments) throws IllegalAccessException {
+        try {
+            return String.valueOf(method.invoke(target, arguments));
+        } catch (InvocationTargetException e) {
+            return "throws." + e.getCause().getClass().getSimpleName();
+        }
     }
 }

@@ -20,10 +20,12 @@ final class View {
             int l = i;
             text.append("learner ").append(hall.asked(i)).append(' ').append(hall.compared(i));
             text.append(' ').append(hall.isDone(i)).append(' ').append(Due.answerOf(() -> hall.believes(l)));
-            for (int row = 0; row < hall.rows(i); row++) {
+            int rows = hall.rows(i);
+            for (int row = 0; row < rows; row++) {
                 text.append(' ').append(hall.row(i, row));
             }
-            for (int column = 0; column < hall.columns(i); column++) {
+            int columns = hall.columns(i);
+            for (int column = 0; column < columns; column++) {
                 text.append(column == 0 ? " : " : " ").append(hall.column(i, column));
             }
             text.append('\n');
