@@ -848,7 +848,7 @@ public final class LearnHall {
                 return 0;
             }
             int[] page = pages[number];
-            return page == null ? 0 : page[cell & PAGE_SIZE - 1];
+            return page == null ? 0 : page[cell & (PAGE_SIZE - 1)];
         }
 
         private void write(int cell, int value) {
@@ -861,10 +861,11 @@ public final class LearnHall {
                 page = new int[PAGE_SIZE];
                 pages[number] = page;
             }
-            page[cell & PAGE_SIZE - 1] = value;
+            page[cell & (PAGE_SIZE - 1)] = value;
         }
     }
 
+    /** A learner: each step fills its table of answers first, and what follows reads the table alone. */
     static final class Learner {
         /** A row has a line of answers in the table for itself, and one with each letter. */
         private static final int LINES = MAX_LETTERS + 1;
