@@ -41,7 +41,9 @@ public final class RandomRunsTest {
         /** Up to 24 examples, some of them long, with a merge now and then. */
         MERGING(""),
         /** A learner whose machine changes between its steps, so that it keeps many words. */
-        GROWING("");
+        GROWING(""),
+        /** Learners whose machine changes when they are done, looked at behind each step. */
+        STUDYING("");
 
         final String[] names;
 
@@ -67,12 +69,13 @@ public final class RandomRunsTest {
         this.kind = kind;
         numbers = new Numbers(seed * 31L + kind.ordinal());
         letters = 1 + numbers.below(3);
-        states = numbers.once(3) ? 8 : 1 + numbers.below(8);
+        int few = kind == Kind.STUDYING ? 5 : 1;
+        states = numbers.once(3) ? 8 : few + numbers.below(9 - few);
         rule = numbers.below(4);
     }
 
     public static void main(String[] args) throws ReflectiveOperationException {
-        int runs = args.length > 0 ? Integer.parseInt(args[0]) : 200;
+        int runs = args.length > 0 ? Integer.parseInt(args[0]) : 250;
         int wrong = 0;
         for (Kind kind : Kind.values()) {
             for (int seed = 0; seed < runs; seed++) {
@@ -92,6 +95,9 @@ public final class RandomRunsTest {
                 break;
             case GROWING:
                 growRun();
+                break;
+            case STUDYING:
+                studyRun();
                 break;
             default:
                 drawnRun();
@@ -114,13 +120,18 @@ public final class RandomRunsTest {
         }
     }
 
+    /** A machine whose letters lead anywhere; or one of which a letter leads on, so that words that tell are long. */
     private void anyMachine(int machine) throws ReflectiveOperationException {
         ask("machine", letters, states);
+        boolean isLong = kind == Kind.STUDYING ? !numbers.once(4) : numbers.once(2);
+        int most = isLong && !numbers.once(3) ? states : 2;
         for (int s = 0; s < states; s++) {
+            int on = isLong ? numbers.below(letters) : -1;
             for (int l = 0; l < letters; l++) {
-                ask("lead", machine, s, (char) ('a' + l), numbers.below(states));
+                int back = isLong ? numbers.below(s + 1) : numbers.below(states);
+                ask("lead", machine, s, (char) ('a' + l), l == on ? Math.min(s + 1, states - 1) : back);
             }
-            ask("accept", machine, s, numbers.once(2));
+            ask("accept", machine, s, numbers.once(most));
         }
     }
 
@@ -181,6 +192,31 @@ public final class RandomRunsTest {
             ask("column", 0, i + 20);
         }
         ask("believes", 0);
+    }
+
+    private void studyRun() throws ReflectiveOperationException {
+        int most = 1 + numbers.below(4);
+        for (int l = 0; l < most; l++) {
+            anyMachine(l);
+            ask("learner", l, !numbers.once(4));
+        }
+        while (calls < CALLS - 30) {
+            int learner = numbers.below(most);
+            if (reference.isDone(learner)) {
+                ask("lead", learner, numbers.below(states), letter(), numbers.below(states));
+                ask("accept", learner, numbers.below(states), numbers.once(states));
+                ask("check", learner);
+            }
+            ask("step", learner);
+            ask("asked", learner);
+            ask("row", learner, reference.rows(learner) - 1);
+            ask("column", learner, reference.columns(learner) - 1);
+        }
+        for (int learner = 0; learner < most; learner++) {
+            for (String name : new String[] {"rows", "columns", "compared", "isDone", "believes"}) {
+                ask(name, learner);
+            }
+        }
     }
 
     /** Drops most rows of the learner, so that it may grow again. */
