@@ -84,6 +84,8 @@ public final class EdgesOfFiguresTest {
                 .machine(1, "1 2 3 4 5 6 7 1", "0123456").due("isSound()", true).end();
         Script.of("31: machines that have not as many letters").does("machine(1, 8); machine(2, 1); machine(3, 8)")
                 .does("accept(1, 0, true)").due("isSound()", true).end();
+        Script.of("31: letters that one of two machines has not").machine(2, "01 11", "1").does("machine(1, 1)")
+                .due("isSound()", true).end();
         Script six = Script.of("31: 6 machines of 8 states");
         for (int machine = 0; machine < 6; machine++) {
             six.machine(1, RING, "0123456".substring(machine));

@@ -101,9 +101,13 @@ public final class EdgesOfLearnersTest {
         Script.of("17: the first one, by letters, becomes a row").machine(3, "012 111 222", "12")
                 .does("learner(0, true)").due("step(0)", "c d").due("asked(0)", 7).does("accept(0, 2, false)")
                 .due("check(0)", 1).does("accept(0, 1, false)").due("check(0)", 4).end();
-        Script.of("17: the first one, by rows, then by letters, becomes the last row")
-                .machine(3, "102 311 411 311 444", "4").does("learner(0, false)").due("step(0)", "e c c")
-                .table(0, "0 1 1", "0 1 2").due("step(0)", "c d").table(0, "0 1 1 2", "0 1 2").end();
+        // Behind the e, neither c nor ba is as a row, nor is bb in the other machine.
+        Script.of("17: the first one, by rows, then by letters: c is ahead of ba").machine(3, "021 111 122", "2")
+                .does("learner(0, true)").due("step(0)", "c e").table(0, "0 1", "0 1").due("step(0)", "c")
+                .table(0, "0 1 1", "0 1").due("asked(0)", 12).due("step(0)", "d").due("asked(0)", 17).end();
+        Script.of("17: the first one, by rows, becomes the last row: a is ahead of bb").machine(2, "21 12 22", "1")
+                .does("learner(0, true)").due("step(0)", "c e").table(0, "0 1", "0 1").due("step(0)", "c")
+                .table(0, "0 1 1", "0 1").due("asked(0)", 8).end();
         Script.of("17: its answers are those of no row, not of the row that it is behind").machine(1, "1 0", "1")
                 .does("learner(0, true)").due("step(0)", "c d").due("rows(0)", 2).due("asked(0)", 3).end();
     }
@@ -171,8 +175,11 @@ public final class EdgesOfLearnersTest {
                 .does("learner(0, true)").due("step(0)", "c e").table(0, "0 1", "0 5").due("asked(0)", 6).end();
         Script.of("17: places that are kept are not asked for again").machine(1, CHAIN, "7").does("learner(0, true)")
                 .due("step(0)", "e").due("asked(0)", 5).due("step(0)", "c").due("asked(0)", 5).end();
+        // Its machine is at the row a by one letter, at the empty row by two: the places are the words aaa and a.
+        Script.of("17: a place stands for the row to which its machine comes").machine(1, "2 1 1", "2")
+                .does("learner(0, true)").due("step(0)", "c e").due("asked(0)", 4).table(0, "0 1", "0 1").end();
         // The table asks for 2 and for 8 letters; of the places 0, 3, 1 and 2, it is 3 that is not kept: 5 letters.
-        Script.of("17: a place stands for the row to which its machine comes").machine(1, CHAIN, "7")
+        Script.of("17: a place stands for the row a, to which its machine comes and stays").machine(1, CHAIN, "7")
                 .does("learner(0, true)").due("step(0)", "e c e").due("asked(0)", 8)
                 .table(0, "0 1", "0 6 5").end();
     }

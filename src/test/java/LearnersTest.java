@@ -100,17 +100,16 @@ public final class LearnersTest {
         Due.is("columns: the empty word, a, aa", "0 1 2", columns(hall, 0));
         Due.is("rows: the empty word, a, aa", "0 1 2", rows(hall, 0));
         Due.is("asked: aaa is the first word that is asked once", 15, hall.asked(0));
-        // Once ca is known to be a word, neither a nor c is like a row: a is the first one by letters, and c is
-        // ahead of aa by rows.
+        // The machine of the rows "" and b is told apart by cb, so that b becomes a column and c a row ahead of ba.
         LearnHall other = new LearnHall();
-        Schools.add(other, 3, "102 311 411 311 444", "4");
+        Schools.add(other, 3, "021 111 122", "2");
         other.learner(0, false);
-        Due.is("first step", 'e', other.step(0));
-        Due.is("columns: the empty word, a, ca", "0 1 2", columns(other, 0));
-        Due.is("steps", "cc", Schools.steps(other, 0, 2));
-        Due.is("rows: the empty word, a, c", "0 1 1", rows(other, 0));
-        Due.is("steps", "cd", Schools.steps(other, 0, 2));
-        Due.is("rows: ca, too", "0 1 1 2", rows(other, 0));
+        Due.is("first steps", "ce", Schools.steps(other, 0, 2));
+        Due.is("columns: the empty word, b, cb", "0 1 2", columns(other, 0));
+        Due.is("step", 'c', other.step(0));
+        Due.is("rows: the empty word, b, c", "0 1 1", rows(other, 0));
+        Due.is("step", 'd', other.step(0));
+        Due.is("rows", "0 1 1", rows(other, 0));
     }
 
     private static void stepByHalving() {

@@ -17,6 +17,8 @@ final class Trace {
     /** The answers of so many calls at most. */
     static List<String> of(LearnHall hall, int calls) {
         Trace trace = new Trace(hall, calls);
+        // Ahead of all others, as those that are refused may themselves leave something behind.
+        trace.ask("example(true)");
         trace.look();
         trace.add();
         trace.learn();
@@ -63,7 +65,6 @@ final class Trace {
     }
 
     private void add() {
-        ask("example(true)");
         ask("example(false)");
         ask("type(a)");
         ask("clear()");
