@@ -73,6 +73,8 @@ public final class EdgesOfLearnersTest {
         for (String call : calls) {
             String sentence = call.replace("(", ": throws if there is no such learner (");
             String name = call.substring(call.indexOf(' ') + 1);
+            Script.of(sentence + ", a new object").refused(name.replace("N", "0"), INDEX)
+                    .refused(name.replace("N", "-1"), INDEX).end();
             for (int learners = 0; learners <= 4; learners += learners == 1 ? 3 : 1) {
                 String[] none = {Integer.toString(learners), "-1", "2147483647", "-2147483648"};
                 for (String number : none) {
