@@ -107,6 +107,16 @@ public final class EdgesOfFiguresTest {
         Script.of("31: a machine that changed there and back").does("machine(1, 1); learner(0, true)")
                 .does("accept(0, 0, true)").due("step(0)", "d").does("accept(0, 0, false)").due("isSound()", true)
                 .end();
+        // The learner keeps answers of two machines, so that it has more rows than the least machine has states.
+        Script.of("31: a machine that changed there and back, and more rows than states").machine(1, "0", "")
+                .does("learner(0, false); accept(0, 0, true)").due("check(0)", 0).does("accept(0, 0, false)")
+                .due("step(0)", "c").due("isSound()", true).does("accept(0, 0, true)").due("isSound()", true)
+                .does("check(0)").due("rows(0)", 1).due("step(0)", "d").due("isSound()", true).end();
+        Script.of("31: a change that leaves all as it was").machine(1, "1 2 0", "2").does("learner(0, false)")
+                .due("step(0)", "e c c d").does("accept(0, 2, true); lead(0, 0, a, 1)").due("isSound()", true).end();
+        Script.of("31: a machine that changed to one that is the same, with as many rows")
+                .machine(1, "1 2 0 0", "2").does("learner(0, false)").due("step(0)", "e c c d")
+                .does("lead(0, 3, a, 1); accept(0, 3, true)").due("isSound()", true).end();
         Script.of("31: a learner that checked after its machine changed").machine(1, "1 2 0", "2")
                 .does("learner(0, false)").due("step(0)", "e c c d").does("accept(0, 2, false); check(0)")
                 .due("step(0)", "d").due("rows(0)", 1).due("isSound()", true).end();

@@ -215,6 +215,15 @@ public final class EdgesOfLearnersTest {
                     .due("step(0)", "e e").due("asked(0)", 6).due("compared(0)", 3).table(0, "0", "0")
                     .due("believes(0)", false).due("check(0)", 3).due("step(0)", "d").due("believes(0)", true).end();
         }
+        // It keeps all that it wants, as the machine was: that the empty word is not accepted, among it.
+        String[][] kinds = {{"false", "0 1 2", "15"}, {"true", "0 1", "11"}};
+        for (String[] kind : kinds) {
+            Script.of("17: its only ending is a column from the start, and no other one is added, " + kind[0])
+                    .machine(2, RING, "2").does("learner(0, " + kind[0] + ")").due("step(0)", "e c c d")
+                    .due("asked(0)", kind[2]).does("check(0); accept(0, 0, true)").due("step(0)", "e e")
+                    .table(0, "0 1 2", kind[1]).due("asked(0)", 2 * Integer.parseInt(kind[2])).due("compared(0)", 4)
+                    .due("isDone(0)", false).does("accept(0, 0, false)").due("step(0)", "d").end();
+        }
     }
 
     /**
